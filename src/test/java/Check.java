@@ -1,3 +1,5 @@
+import java.util.function.LongSupplier;
+
 /** What the tests share: they count the answers that are not due, and end with exit code 1 if there was one. */
 final class Check {
     static final Class<? extends RuntimeException> ARGUMENT = IllegalArgumentException.class;
@@ -29,6 +31,22 @@ final class Check {
         fail(what + " threw nothing, due is " + due.getName());
     }
 
+    static void sameAnswer(String what, LongSupplier got, LongSupplier due) {
+        String gotText = answer(got);
+        String dueText = answer(due);
+        if (!gotText.equals(dueText)) {
+            fail(what + " answered " + gotText + ", due is " + dueText);
+        }
+    }
+
+    private static String answer(LongSupplier call) {
+        try {
+            return Long.toString(call.getAsLong());
+        } catch (RuntimeException e) {
+            return "throws." + e.getClass().getSimpleName();
+        }
+    }
+
     static void fail(String text) {
         wrong++;
         System.out.println(text);
@@ -54,8 +72,21 @@ final class Check {
         }
     }
 
+    static void repeat(EmitDesk desk, int times, long... program) {
+        for (int i = 0; i < times; i++) {
+            code(desk, program);
+        }
+    }
+
     static void values(EmitDesk desk, long... values) {
         for (long v : values) {
+            desk.value(v);
+        }
+    }
+
+    /** The VALUES from 1 on. */
+    static void valuesTo(EmitDesk desk, int last) {
+        for (int v = 1; v <= last; v++) {
             desk.value(v);
         }
     }
@@ -72,14 +103,17 @@ final class Check {
         }
     }
 
-    /** The pairs that are due, written as key, value, key, value and so on, and no pair behind them. */
+    /** The pairs that are due, written as key, value, key, value and so on, and none before or behind them. */
     static void pairs(String what, EmitDesk desk, long... due) {
-        for (int i = 0; i < due.length / 2; i++) {
-            same(what + ": emitted(" + i + ", false)", desk.emitted(i, false), due[2 * i]);
-            same(what + ": emitted(" + i + ", true)", desk.emitted(i, true), due[2 * i + 1]);
+        int count = due.length / 2;
+        for (int i = 0; i < count; i++) {
+            int asked = i;
+            sameAnswer(what + ": emitted(" + i + ", false)", () -> desk.emitted(asked, false), () -> due[2 * asked]);
+            sameAnswer(what + ": emitted(" + i + ", true)", () -> desk.emitted(asked, true), () -> due[2 * asked + 1]);
         }
-        int behind = due.length / 2;
-        refused(what + ": emitted(" + behind + ", false)", INDEX, () -> desk.emitted(behind, false));
-        refused(what + ": emitted(" + behind + ", true)", INDEX, () -> desk.emitted(behind, true));
+        for (int none : new int[] {-1, count}) {
+            refused(what + ": emitted(" + none + ", false)", INDEX, () -> desk.emitted(none, false));
+            refused(what + ": emitted(" + none + ", true)", INDEX, () -> desk.emitted(none, true));
+        }
     }
 }

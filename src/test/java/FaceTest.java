@@ -23,6 +23,7 @@ public final class FaceTest {
             Check.fail("the class is not public and final alone");
         }
         methods();
+        privateNames();
         constructors();
         fields();
         Check.end();
@@ -41,6 +42,16 @@ public final class FaceTest {
         }
         if (!List.copyOf(seen).equals(DUE)) {
             Check.fail("the methods are " + seen + ", due are " + DUE);
+        }
+    }
+
+    /** "No private method bears the name of a public one." (rule 1) */
+    private static void privateNames() {
+        for (Method method : EmitDesk.class.getDeclaredMethods()) {
+            String name = " " + method.getName() + "(";
+            if (Modifier.isPrivate(method.getModifiers()) && DUE.toString().contains(name)) {
+                Check.fail(method + " bears the name of a public one");
+            }
         }
     }
 

@@ -6,7 +6,8 @@ public final class ManyRunsTest {
     private static final int RUNS = 4000;
     private static final int CALLS = 512;
     private static final long[] EDGES = {
-        0, 1, -1, 2, 3, 4, 12, 39, 40, 41, 1L << 32, Integer.MIN_VALUE, Integer.MAX_VALUE, Long.MIN_VALUE, Long.MAX_VALUE
+        0, 1, -1, 2, 3, 4, 12, 39, 40, 41, 1L << 32,
+        Integer.MIN_VALUE, Integer.MAX_VALUE, Long.MIN_VALUE, Long.MAX_VALUE
     };
 
     private final Random random;
@@ -92,18 +93,6 @@ public final class ManyRunsTest {
         if (calls > CALLS) {
             return;
         }
-        String gotText = answer(got);
-        String dueText = answer(due);
-        if (!gotText.equals(dueText)) {
-            Check.fail(name + ", call " + calls + ": " + call + " answered " + gotText + ", due is " + dueText);
-        }
-    }
-
-    private static String answer(LongSupplier call) {
-        try {
-            return Long.toString(call.getAsLong());
-        } catch (RuntimeException e) {
-            return "throws." + e.getClass().getSimpleName();
-        }
+        Check.sameAnswer(name + ", call " + calls + ": " + call, got, due);
     }
 }
